@@ -260,7 +260,7 @@ public final class KeysTest {
         x.destroy(0, 0);
         Check.due("one is destroyed", x.follow(1, 0), -1);
         Check.due("has 1 0", x.has(1, 0), false);
-        Check.due("keys of device 0 stay", x.has(1, 1), true);
+        Check.due("the other key stays", x.has(1, 1), true);
         x.generate(0, 1, 15, 1, 1);
         x.destroy(0, 2);
         Check.due("one of which it has no copy", x.follow(1, 0), 0);
@@ -269,6 +269,11 @@ public final class KeysTest {
         x.addDevice();
         x.trust(1, 2, true);
         Check.due("what is remembered goes on", x.follow(2, 1), 1);
+        Keyceremony own = keyed();
+        own.generate(1, 1, 15, 1, 1);
+        Check.due("two more", own.follow(1, 0), 2);
+        Check.due("its own copy stays", own.has(1, 2), true);
+        Check.due("and comes to the other one only when this follows", own.has(0, 2), false);
         Check.refused("no device", KeysTest::keyed, y -> y.follow(2, 0), INDEX);
         Check.refused("no other one", KeysTest::keyed, y -> y.follow(0, 2), INDEX);
         Check.refused("itself", () -> forbidden('c'), y -> y.follow(0, 0), UNSUPPORTED);

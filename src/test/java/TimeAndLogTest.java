@@ -106,7 +106,7 @@ public final class TimeAndLogTest {
         }
         int acts = x.acts();
         long head = x.head();
-        Check.thrownBy(() -> x.wrap(0, 0, 1));
+        Check.due("refused", Check.thrownBy(() -> x.wrap(0, 0, 1)), "UnsupportedOperationException");
         x.tighten(0, 14);
         x.setRule('g', 8, 0);
         Check.due("refused", Check.thrownBy(() -> x.generate(0, 1, 15, 1, 1)), "IllegalStateException");

@@ -94,6 +94,12 @@ public final class WrapsAndCardsTest {
         Check.refused("wrap -1", WrapsAndCardsTest::wrapped, y -> y.unwrap(1, -1), INDEX);
         Check.refused("no copy of the wrapping key", WrapsAndCardsTest::wrapped, y -> y.unwrap(1, 1), UNSUPPORTED);
         Check.refused("may not decipher", WrapsAndCardsTest::wrapped, y -> y.unwrap(0, 1), UNSUPPORTED);
+        Supplier<Keyceremony> elsewhere = () -> {
+            Keyceremony y = wrapped();
+            y.zeroise(1);
+            return y;
+        };
+        Check.refused("the wrapping key is elsewhere", elsewhere, y -> y.unwrap(1, 0), UNSUPPORTED);
         Supplier<Keyceremony> tightened = () -> {
             Keyceremony y = wrapped();
             y.tighten(0, 7);
@@ -138,6 +144,12 @@ public final class WrapsAndCardsTest {
         Check.due("none that there is", y.canReach(4, 1), false);
         y.advance(5);
         Check.due("the wrapping key has expired", y.canReach(1, 1), false);
+        Keyceremony both = wrapped();
+        both.wrap(0, 0, 4);
+        both.wrap(0, 5, 4);
+        both.advance(10);
+        Check.due("the first of two wraps", both.canReach(1, 1), true);
+        Check.due("the second of two wraps", both.canReach(4, 1), true);
         Keyceremony z = wrapped();
         z.unwrap(1, 0);
         z.destroy(1, 1);
