@@ -1,4 +1,5 @@
 import java.lang.reflect.Constructor;
+import java.lang.reflect.Field;
 import java.lang.reflect.Method;
 import java.lang.reflect.Modifier;
 import java.util.Arrays;
@@ -66,25 +67,27 @@ public final class FaceTest {
     }
 
     public static void main(String[] args) {
-        Check.due("public final", Modifier.toString(Keyceremony.class.getModifiers()), "public final");
+        Story.due("public final", Modifier.toString(Keyceremony.class.getModifiers()), "public final");
         Set<String> open = new TreeSet<>();
-        Set<String> names = new TreeSet<>();
+        Set<String> openNames = new TreeSet<>();
         for (Method method : Keyceremony.class.getDeclaredMethods()) {
             if (!Modifier.isPrivate(method.getModifiers()) && !method.isSynthetic()) {
                 open.add(told(method));
-                names.add(method.getName());
+                openNames.add(method.getName());
             }
         }
-        Check.due("the methods", open.toString(), new TreeSet<>(Arrays.asList(FACE)).toString());
-        for (Class<?> inside : Keyceremony.class.getDeclaredClasses()) {
-            for (Method method : inside.getDeclaredMethods()) {
-                Check.due(inside.getSimpleName() + "." + method.getName() + " has a public name",
-                        names.contains(method.getName()), false);
-            }
+        Story.due("the methods", open.toString(), new TreeSet<>(Arrays.asList(FACE)).toString());
+        for (Method method : Keyceremony.class.getDeclaredMethods()) {
+            boolean isHidden = Modifier.isPrivate(method.getModifiers()) && !method.isSynthetic();
+            Story.due(method + " bears a public name", isHidden && openNames.contains(method.getName()), false);
         }
-        Constructor<?>[] constructors = Keyceremony.class.getConstructors();
-        Check.due("constructors", constructors.length, 1);
-        Check.due("fields that others see", Keyceremony.class.getFields().length, 0);
-        Check.end("FaceTest");
+        Constructor<?>[] constructors = Keyceremony.class.getDeclaredConstructors();
+        Story.due("constructors", constructors.length, 1);
+        Story.due("the constructor", Modifier.toString(constructors[0].getModifiers()), "public");
+        Story.due("its parameters", constructors[0].getParameterCount(), 0);
+        for (Field field : Keyceremony.class.getDeclaredFields()) {
+            Story.due(field + " is private", Modifier.isPrivate(field.getModifiers()) || field.isSynthetic(), true);
+        }
+        Story.end("FaceTest");
     }
 }

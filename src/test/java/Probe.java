@@ -1,109 +1,258 @@
-import java.util.function.Supplier;
+import java.util.ArrayList;
+import java.util.List;
 
-/** Tells all that a house answers, as a text: first by calls that change nothing, then by ones that do. */
+/**
+ * Tells all that a house answers behind some calls, as a text. What no answer shows (the day, places, rules,
+ * trust, destroyed copies, what is behind a key) shows in what later calls answer. Each part is asked of a
+ * house of its own, made by the same calls, so that no house is used for more than 512 calls.
+ */
 final class Probe {
+    private static final int MOST_CALLS = 512;
     private static final char[] KINDS = {'g', 'w', 'u', 'd', 's', 'c'};
+    private static final String ACTS = " generate derive rotate destroy zeroise follow wrap unwrap share recover ";
 
-    private Probe() {
+    private final List<Call> run;
+    private final Call refused;
+    private final StringBuilder text = new StringBuilder();
+    private int devices = 0;
+    private int persons = 0;
+    private int keys = 0;
+    private int wraps = 0;
+    private int messages = 0;
+    private int acts = 0;
+
+    private Probe(List<Call> run, Call refused) {
+        this.run = run;
+        this.refused = refused;
     }
 
-    static String all(Keyceremony house) {
-        return seen(house) + changed(house);
+    /** The call that is refused may be null, for none. */
+    static String behind(List<Call> run, Call refused) {
+        Probe probe = new Probe(run, refused);
+        probe.count();
+        probe.seen();
+        probe.people();
+        probe.time();
+        probe.copies();
+        probe.cards();
+        probe.keysBehind();
+        probe.messagesBehind();
+        return probe.text.toString();
     }
 
-    static String answer(Supplier<Object> call) {
-        try {
-            return String.valueOf(call.get());
-        } catch (RuntimeException e) {
-            return "throws." + e.getClass().getSimpleName();
+    /** What there is by the answers of the run; a refused call must not add to it. */
+    private void count() {
+        Keyceremony house = new Keyceremony();
+        for (Call call : run) {
+            String answer = call.on(house);
+            acts += ACTS.contains(" " + call.name + " ") ? 1 : 0;
+            switch (call.name) {
+                case "addDevice" -> devices++;
+                case "addPerson" -> persons++;
+                case "generate", "derive", "rotate" -> keys = Math.max(keys, Integer.parseInt(answer) + 1);
+                case "wrap" -> wraps++;
+                case "encipher" -> messages++;
+                default -> { }
+            }
         }
     }
 
-    static String seen(Keyceremony house) {
-        StringBuilder text = new StringBuilder();
-        for (int d = 0; d < 4; d++) {
-            int device = d;
+    private Keyceremony house() {
+        Keyceremony house = new Keyceremony();
+        for (Call call : run) {
+            call.on(house);
+        }
+        if (refused != null) {
+            refused.on(house);
+        }
+        return house;
+    }
+
+    /** One call less than there is room for in a run, as a refused call may stand before it. */
+    private int room() {
+        return Math.max(0, MOST_CALLS - 1 - run.size());
+    }
+
+    /** Questions that change nothing go to as many houses as it takes. */
+    private void askAll(List<String> questions) {
+        for (int from = 0; from < questions.size() && room() > 0; from += room()) {
+            ask(questions.subList(from, Math.min(questions.size(), from + room())));
+        }
+    }
+
+    /** Calls that build on each other go to one house, as far as there is room. */
+    private void ask(List<String> questions) {
+        Keyceremony house = house();
+        for (String question : questions.subList(0, Math.min(questions.size(), room()))) {
+            text.append(question).append(" = ").append(new Call(question).on(house)).append('\n');
+        }
+    }
+
+    private static void add(List<String> questions, String form, Object... numbers) {
+        questions.add(String.format(form, numbers));
+    }
+
+    private void seen() {
+        List<String> questions = new ArrayList<>(List.of("acts()", "head()", "activeShare()", "meanCopies()", "isSound()"));
+        for (int device = 0; device <= devices; device++) {
             for (char kind : KINDS) {
-                add(text, () -> house.isPermitted(kind, device));
-            }
-            for (int k = 0; k < 24 && isKey(house, k); k++) {
-                int key = k;
-                add(text, () -> house.has(device, key));
-                add(text, () -> house.canReach(key, device));
+                add(questions, "isPermitted(%c, %d)", kind, device);
             }
         }
-        for (int k = 0; k < 24 && isKey(house, k); k++) {
-            int key = k;
-            add(text, () -> house.flags(key));
-            add(text, () -> house.stage(key));
-            for (int p = 0; p < 8; p++) {
-                int person = p;
-                add(text, () -> house.card(person, key));
+        for (int key = 0; key <= keys; key++) {
+            add(questions, "flags(%d)", key);
+            add(questions, "stage(%d)", key);
+            for (int device = 0; device < devices; device++) {
+                add(questions, "has(%d, %d)", device, key);
+                add(questions, "canReach(%d, %d)", key, device);
+            }
+            for (int person = 0; person < persons; person++) {
+                add(questions, "card(%d, %d)", person, key);
             }
         }
-        for (int m = 0; m < 60 && isMessage(house, m); m++) {
-            int message = m;
-            add(text, () -> house.cipher(message));
+        for (int message = 0; message <= messages; message++) {
+            add(questions, "cipher(%d)", message);
+            for (int device = 0; device < devices; device++) {
+                add(questions, "read(%d, %d)", device, message);
+            }
         }
-        text.append(figures(house));
-        return text.toString();
+        for (int act = 0; act <= acts; act++) {
+            add(questions, "actAt(%d)", act);
+            add(questions, "personsAt(%d)", act);
+        }
+        askAll(questions);
     }
 
-    static String figures(Keyceremony house) {
-        StringBuilder text = new StringBuilder();
-        add(text, house::acts);
-        add(text, house::head);
-        add(text, house::activeShare);
-        add(text, house::meanCopies);
-        add(text, house::isSound);
-        return text.toString();
-    }
-
-    /** What is not seen shows in what the next acts answer: the day, places, rules, trust, destroyed copies. */
-    static String changed(Keyceremony house) {
-        StringBuilder text = new StringBuilder();
+    private List<String> withoutRules() {
+        List<String> questions = new ArrayList<>();
         for (char kind : KINDS) {
-            add(text, () -> house.setRule(kind, 0, -1));
+            add(questions, "setRule(%c, 0, -1)", kind);
         }
-        for (int k = 0; k < 24 && isKey(house, k); k++) {
-            int key = k;
-            add(text, () -> house.share(0, key, 2, 3));
-            add(text, () -> house.card(0, key));
+        return questions;
+    }
+
+    private void people() {
+        List<String> questions = new ArrayList<>();
+        for (int person = 0; person < persons; person++) {
+            add(questions, "logIn(%d, -1)", person);
         }
-        for (int d = 0; d < 4; d++) {
-            int device = d;
-            for (int p = 0; p < 60; p++) {
-                int wrap = p;
-                add(text, () -> house.unwrap(device, wrap));
-            }
-            for (int o = 0; o < 4; o++) {
-                int other = o;
-                add(text, () -> house.trust(device, other, true));
-                add(text, () -> house.follow(device, other));
+        for (int person = 0; person < persons; person++) {
+            add(questions, "logIn(%d, 0)", person);
+            for (char kind : KINDS) {
+                add(questions, "isPermitted(%c, 0)", kind);
             }
         }
-        for (int p = 0; p < 8; p++) {
-            int person = p;
-            add(text, () -> house.logIn(person, -1));
+        questions.addAll(withoutRules());
+        for (int more = 0; more < 9; more++) {
+            questions.add("addPerson(0)");
         }
-        add(text, () -> house.generate(0, 1, 15, 1, 1));
-        add(text, () -> house.encipher(0, 0, 0));
-        add(text, () -> house.addPerson(0));
-        add(text, house::addDevice);
-        add(text, () -> house.advance(1));
-        text.append(seen(house));
-        return text.toString();
+        for (int more = 0; more < 5; more++) {
+            questions.add("addDevice()");
+        }
+        for (int device = 0; device < 4; device++) {
+            for (int other = 0; other < device; other++) {
+                add(questions, "trust(%d, %d, true)", other, device);
+            }
+        }
+        ask(questions);
     }
 
-    private static boolean isKey(Keyceremony house, int key) {
-        return !answer(() -> house.flags(key)).startsWith("throws");
+    private void stages(List<String> questions) {
+        for (int key = 0; key < keys; key++) {
+            add(questions, "stage(%d)", key);
+        }
     }
 
-    private static boolean isMessage(Keyceremony house, int message) {
-        return !answer(() -> house.cipher(message)).startsWith("throws");
+    private void time() {
+        ask(List.of("advance(500)"));
+        List<String> questions = new ArrayList<>();
+        for (int days : new int[] {1, 1, 1, 1, 1, 5, 90, 400, 500}) {
+            add(questions, "advance(%d)", days);
+            stages(questions);
+        }
+        ask(questions);
     }
 
-    private static void add(StringBuilder text, Supplier<Object> call) {
-        text.append(answer(call)).append(' ');
+    private void copies() {
+        List<String> questions = withoutRules();
+        for (int device = 0; device < devices; device++) {
+            for (int wrap = 0; wrap <= wraps; wrap++) {
+                add(questions, "unwrap(%d, %d)", device, wrap);
+            }
+        }
+        ask(questions);
+        questions = withoutRules();
+        for (int device = 0; device < devices; device++) {
+            for (int other = 0; other < devices; other++) {
+                add(questions, "follow(%d, %d)", device, other);
+            }
+        }
+        for (int device = 0; device < devices; device++) {
+            add(questions, "trust(%d, %d, true)", device, (device + 1) % devices);
+            add(questions, "follow(%d, %d)", device, (device + 1) % devices);
+            add(questions, "zeroise(%d)", device);
+        }
+        ask(questions);
+    }
+
+    private void cards() {
+        List<String> questions = withoutRules();
+        for (int device = 0; device < devices; device++) {
+            for (int person = 0; person < persons; person++) {
+                add(questions, "logIn(%d, %d)", person, device);
+            }
+            for (int key = 0; key < keys; key++) {
+                add(questions, "recover(%d, %d)", device, key);
+            }
+        }
+        ask(questions);
+        questions = withoutRules();
+        questions.add("addPerson(0)");
+        questions.add("addPerson(0)");
+        for (int device = 0; device < devices; device++) {
+            for (int key = 0; key < keys; key++) {
+                add(questions, "share(%d, %d, 2, 3)", device, key);
+                add(questions, "card(0, %d)", key);
+            }
+        }
+        ask(questions);
+    }
+
+    private void keysBehind() {
+        List<String> questions = withoutRules();
+        for (int device = 0; device < devices; device++) {
+            for (int key = 0; key < keys; key++) {
+                add(questions, "rotate(%d, %d)", device, key);
+            }
+        }
+        questions.add("advance(1)");
+        stages(questions);
+        ask(questions);
+        questions = withoutRules();
+        for (int device = 0; device < devices; device++) {
+            for (int key = 0; key < keys; key++) {
+                add(questions, "derive(%d, %d, 0, 15)", device, key);
+                add(questions, "derive(%d, %d, 7, 15)", device, key);
+            }
+        }
+        ask(questions);
+    }
+
+    private void messagesBehind() {
+        List<String> questions = new ArrayList<>();
+        for (int device = 0; device < devices; device++) {
+            for (int message = 0; message < messages; message++) {
+                add(questions, "renew(%d, %d)", device, message);
+                add(questions, "cipher(%d)", message);
+            }
+        }
+        for (int device = 0; device < devices; device++) {
+            for (int key = 0; key < keys; key++) {
+                add(questions, "encipher(%d, %d, 1)", device, key);
+            }
+        }
+        add(questions, "cipher(%d)", messages);
+        add(questions, "cipher(%d)", messages + 1);
+        ask(questions);
     }
 }

@@ -183,11 +183,19 @@ public final class RandomRunsTest {
     }
 
     private void same(String call, Supplier<Object> got, Supplier<Object> want) {
-        String answer = Probe.answer(got);
-        Check.due(call, answer, Probe.answer(want));
+        String answer = answer(got);
+        Story.due(call, answer, answer(want));
         String method = call.indexOf('(') < 0 ? call : call.substring(0, call.indexOf('('));
         boolean isCounted = answer.startsWith("throws") || answer.equals("true") || answer.equals("false");
         answered.merge(method + (isCounted ? " " + answer : " answered"), 1, Integer::sum);
+    }
+
+    private static String answer(Supplier<Object> call) {
+        try {
+            return String.valueOf(call.get());
+        } catch (RuntimeException e) {
+            return "throws " + e.getClass().getSimpleName();
+        }
     }
 
     private void run(int number) {
@@ -214,6 +222,6 @@ public final class RandomRunsTest {
         if (args.length > 0) {
             test.answered.forEach((answer, times) -> System.out.println(answer + ": " + times));
         }
-        Check.end("RandomRunsTest");
+        Story.end("RandomRunsTest");
     }
 }
