@@ -43,6 +43,10 @@ public final class AnyArgumentsTest {
         for (int i = 0; i < arguments.length; i++) {
             arguments[i] = argument(method.getParameterTypes()[i]);
         }
+        call(house, method, arguments);
+    }
+
+    private static void call(Keyceremony house, Method method, Object... arguments) throws IllegalAccessException {
         try {
             method.invoke(house, arguments);
         } catch (InvocationTargetException e) {
@@ -53,7 +57,22 @@ public final class AnyArgumentsTest {
         }
     }
 
-    public static void main(String[] args) throws IllegalAccessException {
+    /** Many more acts than a house is made for. */
+    private void manyActs(List<Method> face) throws ReflectiveOperationException {
+        Method zeroise = Keyceremony.class.getMethod("zeroise", int.class);
+        Method acts = Keyceremony.class.getMethod("acts");
+        Keyceremony house = new Keyceremony();
+        house.addDevice();
+        for (int calls = 0; calls < 2000; calls++) {
+            call(house, zeroise, 0);
+            call(house, acts);
+        }
+        for (int calls = 0; calls < 2000; calls++) {
+            call(house, face.get(draw(face.size())));
+        }
+    }
+
+    public static void main(String[] args) throws ReflectiveOperationException {
         List<Method> face = Arrays.stream(Keyceremony.class.getDeclaredMethods())
                 .filter(method -> Modifier.isPublic(method.getModifiers()))
                 .sorted(Comparator.comparing(Method::getName)).toList();
@@ -65,6 +84,7 @@ public final class AnyArgumentsTest {
                 test.call(house, face.get(test.draw(face.size())));
             }
         }
+        test.manyActs(face);
         Story.end("AnyArgumentsTest");
     }
 }

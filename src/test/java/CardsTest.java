@@ -71,17 +71,18 @@ public final class CardsTest {
                 "share(0, 0, 5, 255)", "share(0, 0, 0, 255)", "share(0, 0, -1, 255)", "share(0, 0, 2147483647, 255)",
                 "share(0, 0, -2147483648, 255)"), "share(0, 0, 4, 255) = 8");
         Story.tell("21: there is no such person", KEYED, Story.each(Story.ARGUMENT, "share(0, 0, 2, 16)",
-                "share(0, 0, 2, 19)", "share(0, 0, 2, 31)", "share(0, 0, 2, -1)", "share(0, 0, 2, 2147483647)",
+                "share(0, 0, 2, 17)", "share(0, 0, 2, 19)", "share(0, 0, 2, 31)", "share(0, 0, 2, -1)", "share(0, 0, 2, 2147483647)",
                 "share(0, 0, 2, -2147483648)", "share(0, 0, 2, -2147483645)", "share(0, 0, 2, 67108867)"), "share(0, 0, 2, 15) = 4");
         Story.tell("21: there is no such person of eight", eightPersons(),
-                Story.each(Story.ARGUMENT, "share(0, 0, 2, 256)", "share(0, 0, 2, 259)", "share(0, 0, 2, 511)"), "share(0, 0, 2, 192) = 2");
+                Story.each(Story.ARGUMENT, "share(0, 0, 2, 256)", "share(0, 0, 2, 257)", "share(0, 0, 2, 259)", "share(0, 0, 2, 511)"), "share(0, 0, 2, 192) = 2");
         Story.tell("21: there are fewer persons than are needed", KEYED, Story.each(Story.ARGUMENT, "share(0, 0, 2, 0)",
                 "share(0, 0, 2, 1)", "share(0, 0, 2, 8)", "share(0, 0, 3, 5)", "share(0, 0, 4, 14)"));
         Story.tell("21: the device has no copy", KEYED, Story.each(Story.UNSUPPORTED, "share(1, 0, 2, 3)", "share(0, 1, 2, 3)"),
                 "destroy(0, 0) = 0", Story.each(Story.UNSUPPORTED, "share(0, 0, 2, 3)"));
         Story.tell("21: the rule does not permit it", KEYED, "setRule(s, 1, -1) = 0", Story.each(Story.STATE, "share(0, 0, 2, 3)"));
         Story.tell("21: the exceptions in their order", SHARED, "setRule(s, 1, -1) = 0",
-                Story.each(Story.INDEX, "share(2, 0, 1, 3)", "share(0, 2, 2, 16)", "share(2, 2, 2, 1)", "share(-1, 1, 2, 3)"),
+                Story.each(Story.INDEX, "share(2, 0, 1, 3)", "share(0, 2, 2, 16)", "share(2, 2, 2, 1)", "share(-1, 1, 2, 3)",
+                        "share(0, 2, 1, 3)", "share(0, -1, 5, 15)", "share(0, 2, 3, 3)"),
                 Story.each(Story.ARGUMENT, "share(1, 0, 1, 3)", "share(1, 0, 2, 16)", "share(1, 0, 2, 1)",
                         "share(0, 0, 5, 15)", "share(0, 0, 2, 16)", "share(0, 0, 3, 3)"),
                 Story.each(Story.UNSUPPORTED, "share(1, 0, 2, 3)", "share(0, 1, 2, 3)"));

@@ -123,6 +123,9 @@ public final class CopiesTest {
                 "zeroise(2147483647)", "zeroise(-2147483648)"));
         Story.tell("16: the rule does not permit it", KEYED, "setRule(d, 1, -1) = 0",
                 Story.each(Story.STATE, "zeroise(0)", "zeroise(2)"));
+        Story.tell("16: a zeroising that the rule does not permit forgets nothing", COPIED, "destroy(1, 0) = 1",
+                "setRule(d, 1, -1) = 0", Story.each(Story.STATE, "zeroise(1)"), "follow(1, 0) = 0", "has(1, 0) = false",
+                "has(1, 1) = true");
         Story.tell("16: no such device comes first", KEYED, "setRule(d, 1, -1) = 0",
                 Story.each(Story.INDEX, "zeroise(3)", "zeroise(-1)"));
     }

@@ -8,6 +8,8 @@ import java.util.List;
  */
 final class Probe {
     private static final int MOST_CALLS = 512;
+    private static final int DAYS_SEEN = 60;
+    private static final int DAYS_A_HOUSE = 12;
     private static final char[] KINDS = {'g', 'w', 'u', 'd', 's', 'c'};
     private static final String ACTS = " generate derive rotate destroy zeroise follow wrap unwrap share recover ";
 
@@ -31,9 +33,11 @@ final class Probe {
         Probe probe = new Probe(run, refused);
         probe.count();
         probe.seen();
+        probe.seenOrThrown();
         probe.people();
         probe.time();
         probe.copies();
+        probe.wrapsToCome();
         probe.cards();
         probe.keysBehind();
         probe.messagesBehind();
@@ -94,32 +98,47 @@ final class Probe {
 
     private void seen() {
         List<String> questions = new ArrayList<>(List.of("acts()", "head()", "activeShare()", "meanCopies()", "isSound()"));
-        for (int device = 0; device <= devices; device++) {
+        for (int device = 0; device < devices; device++) {
             for (char kind : KINDS) {
                 add(questions, "isPermitted(%c, %d)", kind, device);
             }
         }
-        for (int key = 0; key <= keys; key++) {
+        for (int key = 0; key < keys; key++) {
             add(questions, "flags(%d)", key);
             add(questions, "stage(%d)", key);
             for (int device = 0; device < devices; device++) {
                 add(questions, "has(%d, %d)", device, key);
                 add(questions, "canReach(%d, %d)", key, device);
             }
-            for (int person = 0; person < persons; person++) {
-                add(questions, "card(%d, %d)", person, key);
-            }
         }
-        for (int message = 0; message <= messages; message++) {
+        for (int message = 0; message < messages; message++) {
             add(questions, "cipher(%d)", message);
-            for (int device = 0; device < devices; device++) {
-                add(questions, "read(%d, %d)", device, message);
-            }
         }
-        for (int act = 0; act <= acts; act++) {
+        for (int act = 0; act < acts; act++) {
             add(questions, "actAt(%d)", act);
             add(questions, "personsAt(%d)", act);
         }
+        askAll(questions);
+    }
+
+    /** Questions of which some throw, when all is well. */
+    private void seenOrThrown() {
+        List<String> questions = new ArrayList<>();
+        for (int person = 0; person < persons; person++) {
+            for (int key = 0; key < keys; key++) {
+                add(questions, "card(%d, %d)", person, key);
+            }
+        }
+        for (int device = 0; device < devices; device++) {
+            for (int message = 0; message < messages; message++) {
+                add(questions, "read(%d, %d)", device, message);
+            }
+        }
+        add(questions, "flags(%d)", keys);
+        add(questions, "cipher(%d)", messages);
+        add(questions, "actAt(%d)", acts);
+        add(questions, "isPermitted(g, %d)", devices);
+        add(questions, "unwrap(0, %d)", wraps);
         askAll(questions);
     }
 
@@ -131,6 +150,13 @@ final class Probe {
         return questions;
     }
 
+    private static void permitted(List<String> questions) {
+        for (char kind : KINDS) {
+            add(questions, "isPermitted(%c, 0)", kind);
+        }
+    }
+
+    /** Who is where, and the rules: each person alone at a device, then all of them, one after the other. */
     private void people() {
         List<String> questions = new ArrayList<>();
         for (int person = 0; person < persons; person++) {
@@ -138,11 +164,15 @@ final class Probe {
         }
         for (int person = 0; person < persons; person++) {
             add(questions, "logIn(%d, 0)", person);
-            for (char kind : KINDS) {
-                add(questions, "isPermitted(%c, 0)", kind);
-            }
+            permitted(questions);
+            add(questions, "logIn(%d, -1)", person);
         }
-        questions.addAll(withoutRules());
+        for (int person = 0; person < persons; person++) {
+            add(questions, "logIn(%d, 0)", person);
+            permitted(questions);
+        }
+        ask(questions);
+        questions = withoutRules();
         for (int more = 0; more < 9; more++) {
             questions.add("addPerson(0)");
         }
@@ -157,29 +187,45 @@ final class Probe {
         ask(questions);
     }
 
-    private void stages(List<String> questions) {
-        for (int key = 0; key < keys; key++) {
-            add(questions, "stage(%d)", key);
+    /** The stages of keys on each of the days to come, a house for each part of them. */
+    private void stages(List<String> before, int many) {
+        for (int first = 0; first < DAYS_SEEN; first += DAYS_A_HOUSE) {
+            List<String> questions = new ArrayList<>(before);
+            if (first > 0) {
+                add(questions, "advance(%d)", first);
+            }
+            for (int days = 0; days < DAYS_A_HOUSE; days++) {
+                for (int key = 0; key < many; key++) {
+                    add(questions, "stage(%d)", key);
+                }
+                questions.add("advance(1)");
+            }
+            ask(questions);
         }
     }
 
     private void time() {
         ask(List.of("advance(500)"));
-        List<String> questions = new ArrayList<>();
-        for (int days : new int[] {1, 1, 1, 1, 1, 5, 90, 400, 500}) {
-            add(questions, "advance(%d)", days);
-            stages(questions);
+        stages(List.of(), keys);
+    }
+
+    private void held(List<String> questions) {
+        for (int key = 0; key < keys; key++) {
+            add(questions, "flags(%d)", key);
+            for (int device = 0; device < devices; device++) {
+                add(questions, "has(%d, %d)", device, key);
+            }
         }
-        ask(questions);
     }
 
     private void copies() {
         List<String> questions = withoutRules();
         for (int device = 0; device < devices; device++) {
-            for (int wrap = 0; wrap <= wraps; wrap++) {
+            for (int wrap = 0; wrap < wraps; wrap++) {
                 add(questions, "unwrap(%d, %d)", device, wrap);
             }
         }
+        held(questions);
         ask(questions);
         questions = withoutRules();
         for (int device = 0; device < devices; device++) {
@@ -187,10 +233,23 @@ final class Probe {
                 add(questions, "follow(%d, %d)", device, other);
             }
         }
+        held(questions);
         for (int device = 0; device < devices; device++) {
             add(questions, "trust(%d, %d, true)", device, (device + 1) % devices);
             add(questions, "follow(%d, %d)", device, (device + 1) % devices);
             add(questions, "zeroise(%d)", device);
+        }
+        ask(questions);
+    }
+
+    private void wrapsToCome() {
+        List<String> questions = withoutRules();
+        for (int device = 0; device < devices; device++) {
+            for (int by = 0; by < keys; by++) {
+                for (int key = 0; key < keys; key++) {
+                    add(questions, "wrap(%d, %d, %d)", device, by, key);
+                }
+            }
         }
         ask(questions);
     }
@@ -205,6 +264,7 @@ final class Probe {
                 add(questions, "recover(%d, %d)", device, key);
             }
         }
+        held(questions);
         ask(questions);
         questions = withoutRules();
         questions.add("addPerson(0)");
@@ -225,9 +285,7 @@ final class Probe {
                 add(questions, "rotate(%d, %d)", device, key);
             }
         }
-        questions.add("advance(1)");
-        stages(questions);
-        ask(questions);
+        stages(questions, Math.min(24, 2 * keys));
         questions = withoutRules();
         for (int device = 0; device < devices; device++) {
             for (int key = 0; key < keys; key++) {

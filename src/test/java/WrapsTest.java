@@ -350,6 +350,30 @@ public final class WrapsTest {
             wrap(0, 0, 1) = 3
             """;
 
+    private static void reachAtTheEnds() {
+        Story.tell("20: the key 0, which is wrapped by another one", """
+                addDevice() = 0
+                addDevice() = 1
+                trust(0, 1, true) = false
+                generate(0, 1, 1, 9, 9) = 0
+                generate(1, 1, 10, 9, 9) = 1
+                canReach(0, 1) = false
+                follow(0, 1) = 1
+                canReach(0, 1) = true
+                canReach(1, 0) = true
+                """);
+        Story.tell("20: with 60 wraps", FULL, "canReach(1, 1) = true", "canReach(0, 0) = true", "canReach(2, 1) = false",
+                "canReach(3, 1) = false", "advance(10) = 10", "canReach(1, 1) = true", "isSound() = true", "advance(5) = 15",
+                "canReach(1, 1) = false");
+        Story.tell("20: with 24 keys at 4 devices", "addDevice()\naddDevice()\naddDevice()\naddDevice()",
+                "trust(3, 0, true) = false", "generate(3, 3, 15, 9, 9) = 0", "follow(0, 3) = 1",
+                Story.lines(1, 23, key -> "generate(3, 1, " + (key == 22 ? 14 : 15) + ", 9, 9) = " + key),
+                Story.lines(0, 23, key -> "canReach(" + key + ", 0) = " + (key != 22)),
+                Story.lines(0, 23, key -> "canReach(" + key + ", 1) = false"),
+                Story.lines(0, 23, key -> "canReach(" + key + ", 2) = false"),
+                Story.lines(0, 23, key -> "canReach(" + key + ", 3) = true"), "isSound() = true");
+    }
+
     private static void reachRefused() {
         Story.tell("20: there is no such key, or device", KEYED, Story.each(Story.INDEX, "canReach(6, 0)", "canReach(-1, 0)",
                 "canReach(0, 2)", "canReach(0, -1)", "canReach(2147483647, 0)", "canReach(0, 2147483647)",
@@ -364,6 +388,7 @@ public final class WrapsTest {
         unwrapRefused();
         promise20();
         longReach();
+        reachAtTheEnds();
         reachRefused();
         Story.end("WrapsTest");
     }
