@@ -172,6 +172,7 @@ final class Probe {
             permitted(questions);
         }
         ask(questions);
+        roles();
         questions = withoutRules();
         for (int more = 0; more < 9; more++) {
             questions.add("addPerson(0)");
@@ -183,6 +184,22 @@ final class Probe {
             for (int other = 0; other < device; other++) {
                 add(questions, "trust(%d, %d, true)", other, device);
             }
+        }
+        ask(questions);
+    }
+
+    private void roles() {
+        List<String> questions = new ArrayList<>();
+        for (int person = 0; person < persons; person++) {
+            add(questions, "logIn(%d, -1)", person);
+        }
+        for (int person = 0; person < persons; person++) {
+            add(questions, "logIn(%d, 0)", person);
+            for (int role = 0; role < 3; role++) {
+                add(questions, "setRule(g, 0, %d)", role);
+                add(questions, "isPermitted(g, 0)");
+            }
+            add(questions, "logIn(%d, -1)", person);
         }
         ask(questions);
     }
