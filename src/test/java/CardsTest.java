@@ -63,6 +63,35 @@ public final class CardsTest {
                 cards(5, 3, 250, 2, 0), "zeroise(0) = 6", "logIn(0, 0)\nlogIn(1, 0)", "recover(0, 5) = true");
     }
 
+    /** Each key that is derived in a row has another secret. */
+    private static void cardsOfDerived() {
+        StringBuilder calls = new StringBuilder(KEYED + "logIn(0, 0)\nlogIn(1, 0)\nlogIn(2, 0)\nlogIn(3, 0)\n");
+        int secret = SECRET;
+        for (int key = 2; key < 24; key++) {
+            int parent = key == 2 ? 0 : key - 1;
+            int label = key * 4 + 3;
+            int needed = 2 + key % 3;
+            secret = Formulas.derived(secret, label);
+            calls.append("derive(0, ").append(parent).append(", ").append(label).append(", 15) = ").append(key)
+                    .append("\nshare(0, ").append(key).append(", ").append(needed).append(", 15) = 4\n")
+                    .append(cards(key, 15, secret, needed, 0));
+        }
+        calls.append("zeroise(0) = 23\n").append(Story.lines(0, 23, key -> key < 2 ? "" : "recover(0, " + key + ") = true"));
+        Story.tell("21, 24: cards of a derived key tell its secret", calls.toString());
+        Story.tell("21, 24: cards of a key behind another one tell its secret, not that of the other one", KEYED, """
+                rotate(0, 0) = 2
+                share(0, 0, 2, 3) = 2
+                share(0, 2, 2, 3) = 2
+                """, cards(0, 3, SECRET, 2, 0), cards(2, 3, Formulas.generated(2, 2, 0), 2, 0), """
+                zeroise(0) = 2
+                logIn(0, 0) = -1
+                logIn(1, 0) = -1
+                recover(0, 2) = true
+                has(0, 0) = false
+                recover(0, 0) = true
+                """);
+    }
+
     private static void shareRefused() {
         Story.tell("21: there is no such device, or key", KEYED, Story.each(Story.INDEX, "share(2, 0, 2, 3)",
                 "share(-1, 0, 2, 3)", "share(0, 2, 2, 3)", "share(0, -1, 2, 3)", "share(2147483647, 0, 2, 3)",
@@ -112,6 +141,12 @@ public final class CardsTest {
                 """);
         Story.tell("23: a falsified card of another key stays", SHARED, "share(1, 1, 2, 3) = 2", "falsify(0, 1, 5)",
                 "card(0, 0) = 57", "falsify(1, 0, 6) = 104", "card(0, 1) = 5");
+        Story.tell("23: a card of each of 24 keys", KEYED, Story.lines(2, 23, key -> "generate(0, 1, 0, 1, 0) = " + key),
+                "follow(0, 1) = 1", Story.lines(0, 23, key -> "share(0, " + key + ", 2, 9) = 2"),
+                Story.lines(0, 23, key -> "falsify(3, " + key + ", " + key * 10 + ")"),
+                Story.lines(0, 23, key -> "card(3, " + key + ") = " + key * 10),
+                Story.lines(0, 23, key -> "card(0, " + key + ") = " + Formulas.card(0, key == 0 ? SECRET
+                        : key == 1 ? OTHER_SECRET : Formulas.generated(key, 1, 0), 2, 0)));
         Story.tell("23: y is 0 to 250", SHARED, Story.each(Story.ARGUMENT, "falsify(0, 0, 251)", "falsify(0, 0, -1)",
                 "falsify(0, 0, 2147483647)", "falsify(0, 0, -2147483648)"), "card(0, 0) = 57");
         Story.tell("23: there is no such person, or key", SHARED, Story.each(Story.INDEX, "falsify(4, 0, 1)",
@@ -225,6 +260,7 @@ public final class CardsTest {
 
     public static void main(String[] args) {
         promise21();
+        cardsOfDerived();
         shareRefused();
         promise22();
         promise23();

@@ -214,6 +214,18 @@ public final class DevicesAndPersonsTest {
                 """);
         Story.tell("7: a role takes somebody, also with 0 persons", MANNED, "logIn(2, -1) = 1",
                 "setRule(d, 0, -1) = 0", "isPermitted(d, 1) = true", "setRule(d, 0, 1) = 0", "isPermitted(d, 1) = false");
+        Story.tell("7: a rule that is told anew, without a role", MANNED, """
+                setRule(s, 1, 2) = 0
+                isPermitted(s, 0) = false
+                setRule(s, 2, -1) = 1
+                isPermitted(s, 0) = true
+                isPermitted(s, 1) = false
+                setRule(s, 0, 2) = 2
+                isPermitted(s, 0) = false
+                setRule(s, 0, -1) = 0
+                isPermitted(s, 0) = true
+                isPermitted(s, 1) = true
+                """);
         Story.tell("7: it takes both, so many persons and the role", MANNED, """
                 setRule(c, 2, 2) = 0
                 isPermitted(c, 0) = false

@@ -167,6 +167,8 @@ public final class KeysTest {
                 derive(0, 0, 1, 0) = 5
                 flags(5) = 0
                 """);
+        Story.tell("Terms: a parent without flags has derived keys, too", DERIVED, "tighten(0, 0) = 0",
+                "derive(0, 0, 0, 15) = 3", "flags(3) = 0", "has(0, 3) = true", "derive(0, 0, 99, 15) = 2", "flags(2) = 6");
         Story.tell("Terms: its flags stay when the parent's are taken away", DERIVED, """
                 tighten(0, 0) = 0
                 flags(2) = 6
@@ -379,11 +381,18 @@ public final class KeysTest {
                 advance(1) = 13
                 stage(3) = r
                 """);
-        Story.tell("Terms: a derived key that is rotated is the same key again", DERIVED, """
+        Story.tell("Terms: a derived key that is rotated is the same key again, and its days stay", DERIVED, """
                 rotate(0, 2) = 3
                 derive(0, 0, 99, 6) = 2
                 stage(2) = r
                 stage(3) = a
+                advance(4) = 5
+                stage(2) = r
+                derive(0, 0, 99, 6) = 2
+                advance(1) = 6
+                stage(2) = x
+                derive(0, 0, 99, 6) = 2
+                stage(2) = x
                 """);
         Story.tell("9: the parent is not active", KEYED, "derive(0, 1, 0, 0) = 2", "advance(2) = 2",
                 Story.each(Story.UNSUPPORTED, "derive(0, 1, 0, 0)", "derive(0, 1, 1, 0)"), "rotate(0, 0) = 3",
@@ -494,6 +503,10 @@ public final class KeysTest {
                     Story.lines(0, 15, key -> "tighten(" + key + ", " + key + ") = " + (flags & key)),
                     Story.lines(0, 15, key -> "flags(" + key + ") = " + (flags & key)));
         }
+        Story.tell("11: flags of each of 24 keys", "addDevice() = 0",
+                Story.lines(0, 23, key -> "generate(0, 1, 15, 1, 0) = " + key),
+                Story.lines(0, 23, key -> "tighten(" + key + ", " + key % 16 + ") = " + key % 16),
+                Story.lines(0, 23, key -> "flags(" + key + ") = " + key % 16));
         Story.tell("Terms: copies of a key have all its flags", KEYED, """
                 trust(0, 1, true) = false
                 follow(1, 0) = 2

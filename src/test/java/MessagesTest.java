@@ -136,6 +136,10 @@ public final class MessagesTest {
                 "destroy(0, 3) = 0", "tighten(3, 0) = 0", "renew(0, 0) = 4", "destroy(0, 0) = 0", "read(0, 0) = 250");
         Story.tell("28: with 60 messages", FULL, "rotate(0, 0) = 3", "renew(0, 59) = 3", "read(0, 59) = 59", "renew(0, 0) = 3",
                 "read(0, 0) = 250", "renew(0, 1) = 1");
+        Story.tell("28: each of 60 messages", FULL, "rotate(0, 0) = 3", Story.lines(0, 59, message -> message == 1 ? ""
+                : "renew(0, " + message + ") = 3\ncipher(" + message + ") = "
+                        + Formulas.cipher(message == 0 ? 250 : message, Formulas.generated(3, 1, 0), message)),
+                "isSound() = true");
         Story.tell("28: at another device", ROTATED, "follow(1, 0) = 4", "zeroise(0) = 4", "renew(1, 0) = 3", "read(1, 0) = 250");
         Story.tell("28: the last days on which it can be", ROTATED, "advance(4) = 4", "stage(0) = r", "stage(3) = a",
                 "renew(0, 0) = 3", "read(0, 0) = 250");

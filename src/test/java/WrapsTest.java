@@ -26,6 +26,12 @@ public final class WrapsTest {
                 "wrap(0, 5, 0) = 3", "wrap(0, 0, 5) = 4", "has(1, 1) = false");
         Story.tell("18: at most 60 wraps", FULL, Story.each(Story.STATE, "wrap(0, 0, 1)", "wrap(0, 5, 4)"),
                 "unwrap(1, 59) = 1", "unwrap(1, 60) throws IndexOutOfBoundsException");
+        Story.tell("18, 19: each of 24 keys by the one before it, and all are unwrapped at another device",
+                "addDevice() = 0", "addDevice() = 1", "trust(0, 1, true) = false", "generate(0, 1, 15, 9, 9) = 0",
+                "follow(1, 0) = 1", Story.lines(1, 23, key -> "generate(0, 1, 15, 9, 9) = " + key),
+                Story.lines(1, 23, key -> "wrap(0, " + (key - 1) + ", " + key + ") = " + (key - 1)),
+                Story.lines(0, 22, wrap -> "unwrap(1, " + wrap + ") = " + (wrap + 1)),
+                Story.lines(0, 22, key -> "wrap(1, " + (key + 1) + ", " + key + ") = " + (key + 23)), "zeroise(1) = 24");
         for (int by = 1; by <= 3; by++) {
             for (int key = 1; key <= 3; key++) {
                 Story.tell("Terms: strength " + key + " by strength " + by, "addDevice() = 0",
@@ -103,6 +109,7 @@ public final class WrapsTest {
     private static void promise19() {
         Story.tell("19: the key gets a copy", WRAPPED, "has(1, 1) = false", "unwrap(1, 0) = 1", "has(1, 1) = true",
                 "has(0, 1) = true", "unwrap(1, 0) = 1", "unwrap(0, 0) = 1", "has(1, 4) = false");
+        Story.tell("19: each of 60 wraps", FULL, Story.lines(0, 59, wrap -> "unwrap(1, " + wrap + ") = 1"));
         Story.tell("Terms: a key of which there is no copy any more", WRAPPED, """
                 follow(1, 0) = 5
                 wrap(1, 0, 4) = 2
@@ -374,6 +381,70 @@ public final class WrapsTest {
                 Story.lines(0, 23, key -> "canReach(" + key + ", 3) = true"), "isSound() = true");
     }
 
+    /**
+     * Device 1 has key 23 alone; each of the keys 0 to 22, of which there is no copy, is in a wrap by the next one,
+     * so that only one after the other can be unwrapped, from the last to the first.
+     */
+    private static final String LONG_CHAIN = "addDevice() = 0\naddDevice() = 1\ntrust(0, 1, true) = false\n"
+            + Story.lines(0, 22, key -> "generate(0, 1, 15, 9, 9) = " + key)
+            + "generate(1, 1, 14, 9, 9) = 23\nfollow(0, 1) = 1\n"
+            + Story.lines(0, 22, key -> "wrap(0, " + (key + 1) + ", " + key + ") = " + key) + "zeroise(0) = 24\n";
+
+    /**
+     * The devices 0 to 3 in a row; each two neighbours have a key of their own, 0, 1 and 2, which wraps and deciphers
+     * and may not leave. Device 0 has key 3, which may leave, and device 3 has key 4, which may leave.
+     */
+    private static final String ROW = """
+            addDevice() = 0
+            addDevice() = 1
+            addDevice() = 2
+            addDevice() = 3
+            trust(0, 1, true) = false
+            trust(1, 2, true) = false
+            trust(2, 3, true) = false
+            generate(0, 1, 10, 9, 9) = 0
+            follow(1, 0) = 1
+            generate(2, 1, 10, 9, 9) = 1
+            follow(1, 2) = 1
+            generate(3, 1, 10, 9, 9) = 2
+            follow(2, 3) = 1
+            generate(0, 1, 1, 9, 9) = 3
+            generate(3, 1, 1, 9, 9) = 4
+            """;
+
+    private static void reachByManyActs() {
+        Story.tell("20: over 23 wraps in a row, the last one first", LONG_CHAIN,
+                Story.lines(0, 23, key -> "canReach(" + key + ", 1) = true"),
+                Story.lines(0, 23, key -> "canReach(" + key + ", 0) = false"), "tighten(11, 7) = 7",
+                Story.lines(0, 22, key -> "canReach(" + key + ", 1) = " + (key > 10)), "isSound() = true");
+        Story.tell("20: over all devices in a row, there and back", ROW,
+                Story.lines(0, 3, device -> "canReach(3, " + device + ") = true\ncanReach(4, " + device + ") = true\n"
+                        + "canReach(1, " + device + ") = " + (device == 1 || device == 2)), "tighten(1, 8) = 8",
+                Story.lines(0, 3, device -> "canReach(3, " + device + ") = " + (device <= 1) + "\n"
+                        + "canReach(4, " + device + ") = " + (device >= 2)));
+        Story.tell("20: any number of acts, also where there are 60 wraps", FULL, "canReach(4, 1) = true",
+                "canReach(5, 1) = true", "wrap(0, 0, 4) throws IllegalStateException", "canReach(4, 1) = true");
+        Story.tell("20: over each of many wraps by one key", KEYED, "wrap(0, 0, 1) = 0", "wrap(0, 0, 4) = 1",
+                "wrap(0, 0, 5) = 2", "zeroise(0) = 6", "canReach(1, 1) = true", "canReach(4, 1) = true",
+                "canReach(5, 1) = true", "canReach(2, 1) = false", "canReach(1, 0) = false");
+    }
+
+    /** What could be wrapped once, and was not, cannot come when the wrapping key may wrap no more, or is not active. */
+    private static void reachThatEnds() {
+        for (int number = 0; number < 23; number++) {
+            int by = number;
+            String keys = "addDevice() = 0\naddDevice() = 1\ntrust(0, 1, true) = false\n"
+                    + Story.lines(0, by - 1, key -> "generate(0, 1, 0, 1, 0) = " + key)
+                    + "generate(0, 1, 14, 9, 9) = " + by + "\nfollow(1, 0) = " + (by + 1) + "\n"
+                    + "generate(0, 1, 1, 9, 9) = " + (by + 1) + "\n";
+            String canReach = "canReach(" + (by + 1) + ", 1) = ";
+            Story.tell("20: what key " + by + " could wrap, and may no more", keys, canReach + "true",
+                    "tighten(" + by + ", 12) = 12", canReach + "false", canReach + "false");
+            Story.tell("20: what key " + by + " could wrap, and is active no more", keys, canReach + "true",
+                    "advance(9) = 9", canReach + "false", "isSound() = true", canReach + "false");
+        }
+    }
+
     private static void reachRefused() {
         Story.tell("20: there is no such key, or device", KEYED, Story.each(Story.INDEX, "canReach(6, 0)", "canReach(-1, 0)",
                 "canReach(0, 2)", "canReach(0, -1)", "canReach(2147483647, 0)", "canReach(0, 2147483647)",
@@ -389,6 +460,8 @@ public final class WrapsTest {
         promise20();
         longReach();
         reachAtTheEnds();
+        reachByManyActs();
+        reachThatEnds();
         reachRefused();
         Story.end("WrapsTest");
     }
