@@ -412,11 +412,27 @@ public final class WrapsTest {
             generate(3, 1, 1, 9, 9) = 4
             """;
 
+    /**
+     * Device 1 has keys 18 and 19, device 2 has key 0, and each of the keys 0 to 18 is in a wrap by the next one. Only
+     * key 0 may wrap, and only key 19 may leave, so that key 0 must have come to device 1 before key 19 can come to
+     * device 2, and then all others behind it.
+     */
+    private static final String TWO_CHAINS = "addDevice() = 0\naddDevice() = 1\naddDevice() = 2\n"
+            + "trust(0, 1, true) = false\ntrust(0, 2, true) = false\ngenerate(0, 1, 15, 9, 9) = 0\nfollow(2, 0) = 1\n"
+            + Story.lines(1, 17, key -> "generate(0, 1, 15, 9, 9) = " + key)
+            + "generate(1, 1, 15, 9, 9) = 18\ngenerate(1, 1, 15, 9, 9) = 19\nfollow(0, 1) = 2\n"
+            + Story.lines(0, 18, key -> "wrap(0, " + (key + 1) + ", " + key + ") = " + key) + "zeroise(0) = 20\n"
+            + Story.lines(1, 18, key -> "tighten(" + key + ", 8) = 8") + "tighten(0, 14) = 14\ntighten(19, 9) = 9\n";
+
     private static void reachByManyActs() {
         Story.tell("20: over 23 wraps in a row, the last one first", LONG_CHAIN,
                 Story.lines(0, 23, key -> "canReach(" + key + ", 1) = true"),
                 Story.lines(0, 23, key -> "canReach(" + key + ", 0) = false"), "tighten(11, 7) = 7",
                 Story.lines(0, 22, key -> "canReach(" + key + ", 1) = " + (key > 10)), "isSound() = true");
+        Story.tell("20: over 18 wraps at a device, and 19 more at another one", TWO_CHAINS, "canReach(1, 2) = true",
+                Story.lines(0, 19, key -> "canReach(" + key + ", 1) = true\ncanReach(" + key + ", 2) = true\n"
+                        + "canReach(" + key + ", 0) = false"), "tighten(0, 8) = 8",
+                Story.lines(0, 19, key -> "canReach(" + key + ", 1) = true\ncanReach(" + key + ", 2) = " + (key == 0)));
         Story.tell("20: over all devices in a row, there and back", ROW,
                 Story.lines(0, 3, device -> "canReach(3, " + device + ") = true\ncanReach(4, " + device + ") = true\n"
                         + "canReach(1, " + device + ") = " + (device == 1 || device == 2)), "tighten(1, 8) = 8",
